@@ -1,6 +1,8 @@
 /**
  * Members write letters to circles that share members; each member gives a letter only behind
  * all that its writer had given when it was written, whatever the lines between them do.
+ * The document DOC.md tells what each public method answers; a letter's NUMBER is its place here,
+ * so that it is not taken for the number by which letters are called.
  */
 public final class ReadingCircles {
     private static final int MOST_MEMBERS = 8;
@@ -64,12 +66,10 @@ public final class ReadingCircles {
     private int writtenByCalls;
     private int latestStatus;
 
-    /** No members, no circles, no letters. */
     public ReadingCircles() {
         latestStatus = DONE;
     }
 
-    /** A member more: its number. */
     public int member() {
         if (memberCount >= MOST_MEMBERS) {
             return refuse(NO_ROOM);
@@ -79,7 +79,6 @@ public final class ReadingCircles {
         return done(memberCount - 1);
     }
 
-    /** A circle of the members whose bits stand in bits: its number. */
     public int circle(int bits) {
         int strangers = -1 << memberCount;
         if ((bits & strangers) != 0 || Integer.bitCount(bits) < 2) {
@@ -93,7 +92,6 @@ public final class ReadingCircles {
         return done(circleCount - 1);
     }
 
-    /** A Note, View or Flush by a member to a circle: the letter's number. */
     public int write(int member, int circle, int kind) {
         if (kind != NOTE && kind != VIEW && kind != FLUSH) {
             return refuse(NO_SUCH);
@@ -101,7 +99,6 @@ public final class ReadingCircles {
         return writeByCall(member, circle, kind, NONE);
     }
 
-    /** A Reply to a letter that the member has written or given: the Reply's number. */
     public int reply(int member, int circle, int letter) {
         if (!isLetter(letter)) {
             return refuse(NO_SUCH);
@@ -109,7 +106,6 @@ public final class ReadingCircles {
         return writeByCall(member, circle, REPLY, letter);
     }
 
-    /** A Sealed letter that answers a letter, or none (-1): its number. */
     public int seal(int member, int circle, int letter) {
         if (letter != NONE && !isLetter(letter)) {
             return refuse(NO_SUCH);
@@ -117,7 +113,6 @@ public final class ReadingCircles {
         return writeByCall(member, circle, SEALED, letter);
     }
 
-    /** A letter comes from the line to a member: how many letters this member gave by that. */
     public int deliver(int letter, int member) {
         if (!isLetter(letter) || !isMember(member)) {
             return refuse(NO_SUCH);
@@ -128,7 +123,6 @@ public final class ReadingCircles {
         return done(bring(letters[letter], member));
     }
 
-    /** All letters of a circle come, the lowest (way 0) or highest (way 1) first: how many. */
     public int deliverAll(int circle, int way) {
         if (!isCircle(circle) || way < 0 || way > 1) {
             return refuse(NO_SUCH);
@@ -143,7 +137,6 @@ public final class ReadingCircles {
         return done(came);
     }
 
-    /** How many: 0 members, 1 circles, 2 letters, 3 bodies of the latest act. */
     public int count(int what) {
         switch (what) {
             case 0: return memberCount;
@@ -154,7 +147,6 @@ public final class ReadingCircles {
         }
     }
 
-    /** What is told of a letter. */
     public int told(int letter, int what) {
         if (!isLetter(letter)) {
             return NONE;
@@ -173,7 +165,6 @@ public final class ReadingCircles {
         }
     }
 
-    /** What is told of a circle. */
     public int circleTold(int circle, int what) {
         if (!isCircle(circle)) {
             return NONE;
@@ -188,7 +179,6 @@ public final class ReadingCircles {
         }
     }
 
-    /** How a letter stands to a member: 0 not at all, 1 on the line, 2 held, 3 given. */
     public int state(int member, int letter) {
         if (!isMember(member) || !isLetter(letter)) {
             return NONE;
@@ -196,7 +186,6 @@ public final class ReadingCircles {
         return standing(member, letters[letter]);
     }
 
-    /** How many letters to circle c by w the member r has given. */
     public int given(int r, int c, int w) {
         if (!isMember(r) || !isCircle(c) || !isMember(w)) {
             return NONE;
@@ -204,7 +193,6 @@ public final class ReadingCircles {
         return members[r].givenCounts[c][w];
     }
 
-    /** The i-th letter that a member gave. */
     public int read(int member, int i) {
         if (!isMember(member) || i < 0 || i >= members[member].readCount) {
             return NONE;
@@ -212,7 +200,6 @@ public final class ReadingCircles {
         return members[member].readLetters[i];
     }
 
-    /** Why a member does not give a letter that it holds. */
     public int why(int member, int letter, int what) {
         if (!isMember(member) || !isLetter(letter) || what < 0 || what > 2) {
             return NONE;
@@ -234,7 +221,6 @@ public final class ReadingCircles {
         }
     }
 
-    /** How many letters are on the line to a member. */
     public int late(int member) {
         if (!isMember(member)) {
             return NONE;
@@ -248,7 +234,6 @@ public final class ReadingCircles {
         return coming;
     }
 
-    /** Whether letter b is behind letter a. */
     public int behind(int a, int b) {
         if (!isLetter(a) || !isLetter(b)) {
             return NONE;
@@ -256,12 +241,10 @@ public final class ReadingCircles {
         return letters[b].before.has(a) ? 1 : 0;
     }
 
-    /** How many letters a letter is behind of. */
     public int past(int letter) {
         return isLetter(letter) ? letters[letter].before.size() : NONE;
     }
 
-    /** How many letters the longest row from a to b has, each behind the one before it. */
     public int chain(int a, int b) {
         if (!isLetter(a) || !isLetter(b)) {
             return NONE;
@@ -276,21 +259,18 @@ public final class ReadingCircles {
         return longestRow[b];
     }
 
-    /** What an act of a letter answers with x. */
     public int act(int letter, int act, int x) {
         if (!isLetter(letter) || act < 0 || act >= ACTS) {
             return refuse(NO_SUCH);
         }
         latestTrace.begun = 0;
-        return done(perform(letters[letter], letters[letter].kind, act, x, 0));
+        return done(perform(letters[letter], latestTrace, letters[letter].kind, act, x, 0));
     }
 
-    /** The i-th body that ran in the latest act. */
     public int trace(int i) {
         return latestTrace.bodyAt(i);
     }
 
-    /** The clock of a letter is put into a slot of a member's hold that has no thing. */
     public int bare(int member, int slot, int letter) {
         if (!isMember(member) || !isSlot(slot) || !isLetter(letter)) {
             return refuse(NO_SUCH);
@@ -302,7 +282,6 @@ public final class ReadingCircles {
         return done(1);
     }
 
-    /** What a slot has: 0 nothing, 1 a bare clock, 2 + the kind of a letter. */
     public int slot(int member, int slot) {
         if (!isMember(member) || !isSlot(slot)) {
             return NONE;
@@ -314,7 +293,6 @@ public final class ReadingCircles {
         return thing == null ? 0 : 1;
     }
 
-    /** What the host does with the thing of a slot. */
     public int forge(int member, int slot, int what, int n) {
         if (!isMember(member) || !isSlot(slot) || n < -MOST_FORGED || n > MOST_FORGED) {
             return refuse(NO_SUCH);
@@ -333,7 +311,6 @@ public final class ReadingCircles {
         }
     }
 
-    /** The status of the latest call that is no question. */
     public int status() {
         return latestStatus;
     }
@@ -574,8 +551,8 @@ public final class ReadingCircles {
         return longest + 1;
     }
 
-    /** Runs the body of an act that stands at a kind, or at the next kind above that has one. */
-    private int perform(Letter letter, int fromKind, int act, int x, int depth) {
+    /** Kinds are numbers and not classes, so that one method shows all bodies as the document does. */
+    private static int perform(Letter letter, Trace trace, int fromKind, int act, int x, int depth) {
         int kind = kindWithBody(fromKind, act);
         if (kind == NONE || depth > MOST_DEPTH) {
             return 0;
@@ -584,20 +561,23 @@ public final class ReadingCircles {
         int above = KIND_ABOVE[kind];
         int deeper = depth + 1;
         int body = BODIES[kind * ACTS + act];
-        latestTrace.begin(body);
+        trace.begin(body);
         switch (body) {
             case 10: return x + letter.serial;
             case 11: return x * 3 + letter.clock.counts;
-            case 12: return perform(letter, own, AGE, x, deeper) + perform(letter, own, BEAR, x, deeper);
-            case 13: return perform(letter, own, GIVE, x + 1, deeper) - x;
-            case 20: return perform(letter, above, AGE, x, deeper) * 2 + letter.answered;
-            case 21: return perform(letter, above, WAIT, x, deeper) ^ 5;
-            case 30: return perform(letter, above, BEAR, x + 1, deeper) - letter.place;
-            case 31: return perform(letter, above, GIVE, x, deeper) + letter.place * 7;
-            case 40: return perform(letter, above, AGE, x - 1, deeper) + letter.answered;
-            case 50: return perform(letter, above, GIVE, x * 2, deeper) + 1;
-            case 60: return perform(letter, above, BEAR, x, deeper) * 2 + perform(letter, above, AGE, x, deeper);
-            case 61: return perform(letter, above, WAIT, x + 2, deeper) + perform(letter, own, BEAR, x, deeper);
+            case 12: return perform(letter, trace, own, AGE, x, deeper)
+                + perform(letter, trace, own, BEAR, x, deeper);
+            case 13: return perform(letter, trace, own, GIVE, x + 1, deeper) - x;
+            case 20: return perform(letter, trace, above, AGE, x, deeper) * 2 + letter.answered;
+            case 21: return perform(letter, trace, above, WAIT, x, deeper) ^ 5;
+            case 30: return perform(letter, trace, above, BEAR, x + 1, deeper) - letter.place;
+            case 31: return perform(letter, trace, above, GIVE, x, deeper) + letter.place * 7;
+            case 40: return perform(letter, trace, above, AGE, x - 1, deeper) + letter.answered;
+            case 50: return perform(letter, trace, above, GIVE, x * 2, deeper) + 1;
+            case 60: return perform(letter, trace, above, BEAR, x, deeper) * 2
+                + perform(letter, trace, above, AGE, x, deeper);
+            case 61: return perform(letter, trace, above, WAIT, x + 2, deeper)
+                + perform(letter, trace, own, BEAR, x, deeper);
             default: return 0;
         }
     }

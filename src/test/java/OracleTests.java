@@ -4,7 +4,7 @@ import java.util.Random;
 public final class OracleTests {
     private static final int RUNS = 400;
     private static final int CALLS = 512;
-    private static final int[] ODD = {-1, -2, 6, 8, 40, 100, 101, -100, -101, 200, 1 << 8, 1 << 31, Integer.MAX_VALUE};
+    private static final int[] ODD = {-1, -2, 2, 3, 4, 5, 6, 7, 8, 40, 100, 101, -100, -101, 200, 1 << 8, 1 << 31, Integer.MAX_VALUE};
 
     private final Random random;
     private final ReadingCircles asked = new ReadingCircles();
@@ -12,13 +12,15 @@ public final class OracleTests {
     private final int memberLimit;
     private final int oddOneIn;
     private final int deliverWeight;
+    private final int sealWeight;
     private final String run;
 
     private OracleTests(int seed) {
-        random = new Random(seed);
+        random = new Random(seed * 0x9E3779B97F4A7C15L);
         memberLimit = 2 + random.nextInt(8);
-        oddOneIn = 20 + random.nextInt(200);
-        deliverWeight = random.nextInt(14);
+        oddOneIn = 10 + random.nextInt(200);
+        deliverWeight = random.nextInt(30);
+        sealWeight = random.nextInt(8);
         run = "run " + seed + ": ";
     }
 
@@ -71,8 +73,10 @@ public final class OracleTests {
     }
 
     private void change() {
-        int kind = random.nextInt(16 + deliverWeight);
-        switch (kind) {
+        if (random.nextInt(16) < sealWeight) {
+            seal(aMember(), aCircle(), -1);
+        }
+        switch (random.nextInt(16 + deliverWeight)) {
             case 0: case 1: case 2: case 3: write(aMember(), aCircle(), new int[] {0, 4, 5, 0, 4, 5, 1, 3}[random.nextInt(8)]); break;
             case 4: case 5: reply(aMember(), aCircle(), aLetter()); break;
             case 6: case 7: seal(aMember(), aCircle(), random.nextInt(3) == 0 ? aLetter() : -1); break;

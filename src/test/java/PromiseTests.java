@@ -15,6 +15,8 @@ public final class PromiseTests {
         reply();
         seal();
         deliver();
+        deliverBehindTheFirstMember();
+        deliverLowestFirst();
         deliverWithinSharedCircles();
         sealedInOneOrder();
         deliverAll();
@@ -205,6 +207,28 @@ public final class PromiseTests {
         ReadingCircles y = withMembers(3, 3);
         y.write(0, 0, 0);
         refused("7: outside the circle", y, y.deliver(0, 2), 3);
+    }
+
+    private static void deliverBehindTheFirstMember() {
+        ReadingCircles x = withMembers(3, 7);
+        x.write(0, 0, 0);
+        x.deliver(0, 1);
+        x.write(1, 0, 0);
+        Due.is("7: behind a letter of member 0", x.deliver(1, 2), 0);
+        Due.is("7: till that comes", x.deliver(0, 2), 2);
+    }
+
+    private static void deliverLowestFirst() {
+        ReadingCircles x = withMembers(4, 15);
+        x.write(3, 0, 0);
+        x.deliver(0, 0);
+        x.deliver(0, 1);
+        x.write(0, 0, 0);
+        x.write(1, 0, 0);
+        x.deliver(2, 2);
+        x.deliver(1, 2);
+        Due.is("7: one brings two", x.deliver(0, 2), 3);
+        Due.is("7: of those the lowest first, not the one that came first", x.read(2, 1), 1);
     }
 
     private static void deliverWithinSharedCircles() {
@@ -568,6 +592,7 @@ public final class PromiseTests {
         x.write(2, 0, 0);
         Due.is("19: one step", x.chain(0, 3), 2);
         Due.is("19: the longest", x.chain(1, 3), 3);
+        Due.is("19: an end that was within an earlier row", x.chain(2, 3), 2);
         Due.is("19: not behind", x.chain(0, 1), 0);
         Due.is("19: not behind itself", x.chain(2, 2), 0);
         Due.is("19: not the other way", x.chain(3, 1), 0);
@@ -790,6 +815,12 @@ public final class PromiseTests {
             refused("24: a letter, row " + n, x, x.forge(1, 0, 2, n), 11);
         }
         refused("24: row 6", x, x.forge(0, 5, 2, 6), 12);
+        ReadingCircles y = withMembers(2, 3);
+        y.write(0, 0, 0);
+        y.write(0, 0, 0);
+        y.bare(1, 0, 1);
+        done("24: the first row and cell", y, y.forge(1, 0, 1, 0), 1);
+        done("24: the sum has the first cell", y, y.forge(1, 0, 2, 0), 1);
         refused("24: a letter", x, x.forge(1, 0, 1, 0), 11);
         refused("24: nothing", x, x.forge(0, 6, 2, 0), 10);
     }
