@@ -142,7 +142,7 @@ public final class ReadingCircles {
             case 0: return memberCount;
             case 1: return circleCount;
             case 2: return letterCount;
-            case 3: return latestTrace.begun;
+            case 3: return latestTrace.begunCount();
             default: return NONE;
         }
     }
@@ -263,7 +263,7 @@ public final class ReadingCircles {
         if (!isLetter(letter) || act < 0 || act >= ACTS) {
             return refuse(NO_SUCH);
         }
-        latestTrace.begun = 0;
+        latestTrace.restart();
         return done(perform(letters[letter], latestTrace, letters[letter].kind, act, x, 0));
     }
 
@@ -859,10 +859,21 @@ public final class ReadingCircles {
         }
     }
 
-    /** The numbers of the bodies that ran; those past the first MOST_TRACED are counted alone. */
-    private static final class Trace {
+    /**
+     * The numbers of the bodies that ran; those past the first MOST_TRACED are counted alone.
+     * No act of the document runs so many: tests can see that limit here alone, so it is not private.
+     */
+    static final class Trace {
         private final int[] bodies = new int[MOST_TRACED];
         private int begun;
+
+        void restart() {
+            begun = 0;
+        }
+
+        int begunCount() {
+            return begun;
+        }
 
         void begin(int body) {
             if (begun < bodies.length) {

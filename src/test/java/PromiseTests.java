@@ -1,7 +1,7 @@
 /** The promises of the document by number: ordinary inputs, edges that it names, wrong inputs. */
 public final class PromiseTests {
-    private static final int LOW = Integer.MIN_VALUE;
-    private static final int HIGH = Integer.MAX_VALUE;
+    private static final int LOW = Start.LOW;
+    private static final int HIGH = Start.HIGH;
 
     private PromiseTests() {
     }
@@ -50,27 +50,6 @@ public final class PromiseTests {
         Due.end("PromiseTests");
     }
 
-    private static ReadingCircles withMembers(int members, int... circles) {
-        ReadingCircles x = new ReadingCircles();
-        for (int i = 0; i < members; i++) {
-            x.member();
-        }
-        for (int bits : circles) {
-            x.circle(bits);
-        }
-        return x;
-    }
-
-    private static void refused(String call, ReadingCircles x, int got, int status) {
-        Due.is(call, got, -1);
-        Due.is(call + ", then status()", x.status(), status);
-    }
-
-    private static void done(String call, ReadingCircles x, int got, int want) {
-        Due.is(call, got, want);
-        Due.is(call + ", then status()", x.status(), 0);
-    }
-
     private static void newObject() {
         ReadingCircles x = new ReadingCircles();
         for (int what = 0; what < 4; what++) {
@@ -78,94 +57,94 @@ public final class PromiseTests {
         }
         Due.is("1: status()", x.status(), 0);
         Due.is("1: trace(0)", x.trace(0), -1);
-        refused("1: write(0, 0, 0)", x, x.write(0, 0, 0), 1);
+        Due.refused("1: write(0, 0, 0)", x, x.write(0, 0, 0), 1);
         Due.is("1: late(0)", x.late(0), -1);
     }
 
     private static void member() {
         ReadingCircles x = new ReadingCircles();
         for (int i = 0; i < 8; i++) {
-            done("2: member()", x, x.member(), i);
+            Due.done("2: member()", x, x.member(), i);
         }
-        refused("2: member()", x, x.member(), 2);
+        Due.refused("2: member()", x, x.member(), 2);
         Due.is("2: count(0)", x.count(0), 8);
     }
 
     private static void circle() {
-        ReadingCircles x = withMembers(3);
+        ReadingCircles x = Start.of(3);
         int[] none = {0, 1, 4, 8, 9, 15, -1, LOW, LOW | 3, 1 << 8 | 3};
         for (int bits : none) {
-            refused("3: circle(" + bits + ")", x, x.circle(bits), 1);
+            Due.refused("3: circle(" + bits + ")", x, x.circle(bits), 1);
         }
         int[] some = {7, 3, 6, 5, 3, 7};
         for (int i = 0; i < some.length; i++) {
-            done("3: circle(" + some[i] + ")", x, x.circle(some[i]), i);
+            Due.done("3: circle(" + some[i] + ")", x, x.circle(some[i]), i);
         }
-        refused("3: circle(7) as seventh", x, x.circle(7), 2);
-        refused("3: circle(1) as seventh", x, x.circle(1), 1);
+        Due.refused("3: circle(7) as seventh", x, x.circle(7), 2);
+        Due.refused("3: circle(1) as seventh", x, x.circle(1), 1);
         Due.is("3: count(1)", x.count(1), 6);
-        Due.is("3: circle(255) of eight", withMembers(8).circle(255), 0);
-        refused("3: circle(3) of none", x = new ReadingCircles(), x.circle(3), 1);
+        Due.is("3: circle(255) of eight", Start.of(8).circle(255), 0);
+        Due.refused("3: circle(3) of none", x = new ReadingCircles(), x.circle(3), 1);
     }
 
     private static void write() {
-        ReadingCircles x = withMembers(3, 3);
-        done("4: a Note", x, x.write(0, 0, 0), 0);
-        done("4: a View", x, x.write(1, 0, 4), 1);
-        done("4: a Flush", x, x.write(1, 0, 5), 2);
+        ReadingCircles x = Start.of(3, 3);
+        Due.done("4: a Note", x, x.write(0, 0, 0), 0);
+        Due.done("4: a View", x, x.write(1, 0, 4), 1);
+        Due.done("4: a Flush", x, x.write(1, 0, 5), 2);
         for (int kind : new int[] {1, 2, 3, 6, -1, LOW, HIGH}) {
-            refused("4: kind " + kind, x, x.write(0, 0, kind), 1);
+            Due.refused("4: kind " + kind, x, x.write(0, 0, kind), 1);
         }
         for (int wrong : new int[] {3, -1, LOW, HIGH}) {
-            refused("4: member " + wrong, x, x.write(wrong, 0, 0), 1);
-            refused("4: circle " + wrong, x, x.write(0, wrong, 0), 1);
+            Due.refused("4: member " + wrong, x, x.write(wrong, 0, 0), 1);
+            Due.refused("4: circle " + wrong, x, x.write(0, wrong, 0), 1);
         }
-        refused("4: not in it", x, x.write(2, 0, 0), 3);
+        Due.refused("4: not in it", x, x.write(2, 0, 0), 3);
         Due.is("4: count(2)", x.count(2), 3);
         Due.is("4: the writer gave it", x.state(0, 0), 3);
         Due.is("4: it is on the line", x.state(1, 0), 1);
     }
 
     private static void writeInOrderOfStatus() {
-        ReadingCircles x = withMembers(3, 3);
+        ReadingCircles x = Start.of(3, 3);
         for (int i = 0; i < 99; i++) {
             x.write(0, 0, 0);
         }
-        done("4: the 100th", x, x.seal(0, 0, -1), 99);
+        Due.done("4: the 100th", x, x.seal(0, 0, -1), 99);
         Due.is("4: an Order comes besides", x.count(2), 101);
-        refused("4: the 101st", x, x.write(0, 0, 0), 2);
-        refused("4: no room before not in it", x, x.write(2, 0, 0), 2);
-        refused("4: no such before no room", x, x.write(0, 0, 3), 1);
-        refused("5: no room", x, x.reply(0, 0, 0), 2);
-        refused("5: no such before no room", x, x.reply(0, 0, 101), 1);
-        refused("6: no room", x, x.seal(0, 0, -1), 2);
-        refused("6: no such before no room", x, x.seal(0, 1, -1), 1);
+        Due.refused("4: the 101st", x, x.write(0, 0, 0), 2);
+        Due.refused("4: no room before not in it", x, x.write(2, 0, 0), 2);
+        Due.refused("4: no such before no room", x, x.write(0, 0, 3), 1);
+        Due.refused("5: no room", x, x.reply(0, 0, 0), 2);
+        Due.refused("5: no such before no room", x, x.reply(0, 0, 101), 1);
+        Due.refused("6: no room", x, x.seal(0, 0, -1), 2);
+        Due.refused("6: no such before no room", x, x.seal(0, 1, -1), 1);
         Due.is("4: count(2)", x.count(2), 101);
     }
 
     private static void reply() {
-        ReadingCircles x = withMembers(3, 7, 3);
+        ReadingCircles x = Start.of(3, 7, 3);
         x.write(0, 0, 0);
-        done("5: to one's own", x, x.reply(0, 1, 0), 1);
+        Due.done("5: to one's own", x, x.reply(0, 1, 0), 1);
         Due.is("5: kind", x.told(1, 0), 1);
         Due.is("5: answers", x.told(1, 4), 0);
-        refused("5: not given", x, x.reply(1, 0, 0), 3);
+        Due.refused("5: not given", x, x.reply(1, 0, 0), 3);
         x.deliver(0, 1);
-        done("5: given", x, x.reply(1, 1, 0), 2);
-        refused("5: not in the circle", x, x.reply(2, 1, 0), 3);
+        Due.done("5: given", x, x.reply(1, 1, 0), 2);
+        Due.refused("5: not in the circle", x, x.reply(2, 1, 0), 3);
         for (int wrong : new int[] {3, -1, LOW, HIGH}) {
-            refused("5: letter " + wrong, x, x.reply(0, 0, wrong), 1);
-            refused("5: member " + wrong, x, x.reply(wrong, 0, 0), 1);
-            refused("5: circle " + wrong, x, x.reply(0, wrong, 0), 1);
+            Due.refused("5: letter " + wrong, x, x.reply(0, 0, wrong), 1);
+            Due.refused("5: member " + wrong, x, x.reply(wrong, 0, 0), 1);
+            Due.refused("5: circle " + wrong, x, x.reply(0, wrong, 0), 1);
         }
         x.seal(1, 0, -1);
-        done("5: written and not given", x, x.reply(1, 0, 3), 4);
+        Due.done("5: written and not given", x, x.reply(1, 0, 3), 4);
         Due.is("5: waits behind the Sealed one", x.state(1, 4), 2);
     }
 
     private static void seal() {
-        ReadingCircles x = withMembers(3, 6);
-        done("6: by the eldest", x, x.seal(1, 0, -1), 0);
+        ReadingCircles x = Start.of(3, 6);
+        Due.done("6: by the eldest", x, x.seal(1, 0, -1), 0);
         Due.is("6: kind", x.told(0, 0), 2);
         Due.is("6: answers none", x.told(0, 4), -1);
         Due.is("6: has its number at once", x.told(0, 5), 0);
@@ -173,44 +152,44 @@ public final class PromiseTests {
         Due.is("6: the Order names it", x.told(1, 4), 0);
         Due.is("6: the Order's serial", x.told(1, 3), 2);
         Due.is("6: the eldest gave the Order", x.state(1, 1), 3);
-        done("6: answers", x, x.seal(1, 0, 1), 2);
+        Due.done("6: answers", x, x.seal(1, 0, 1), 2);
         Due.is("6: answers", x.told(2, 4), 1);
-        refused("6: answers what is not given", x, x.seal(2, 0, 0), 3);
-        refused("6: not in it", x, x.seal(0, 0, -1), 3);
+        Due.refused("6: answers what is not given", x, x.seal(2, 0, 0), 3);
+        Due.refused("6: not in it", x, x.seal(0, 0, -1), 3);
         for (int wrong : new int[] {4, -2, LOW, HIGH}) {
-            refused("6: letter " + wrong, x, x.seal(1, 0, wrong), 1);
-            refused("6: member " + wrong, x, x.seal(wrong, 0, -1), 1);
-            refused("6: circle " + wrong, x, x.seal(1, wrong, -1), 1);
+            Due.refused("6: letter " + wrong, x, x.seal(1, 0, wrong), 1);
+            Due.refused("6: member " + wrong, x, x.seal(wrong, 0, -1), 1);
+            Due.refused("6: circle " + wrong, x, x.seal(1, wrong, -1), 1);
         }
-        done("6: by another", x, x.seal(2, 0, -1), 4);
+        Due.done("6: by another", x, x.seal(2, 0, -1), 4);
         Due.is("6: by another: no number", x.told(4, 5), -1);
         Due.is("6: by another: held by it", x.state(2, 4), 2);
     }
 
     private static void deliver() {
-        ReadingCircles x = withMembers(3, 7);
+        ReadingCircles x = Start.of(3, 7);
         x.write(0, 0, 0);
         x.write(0, 0, 0);
         x.write(0, 0, 0);
-        done("7: too early", x, x.deliver(2, 1), 0);
-        done("7: too early", x, x.deliver(1, 1), 0);
-        done("7: the first brings all", x, x.deliver(0, 1), 3);
+        Due.done("7: too early", x, x.deliver(2, 1), 0);
+        Due.done("7: too early", x, x.deliver(1, 1), 0);
+        Due.done("7: the first brings all", x, x.deliver(0, 1), 3);
         for (int i = 0; i < 3; i++) {
             Due.is("7: read(1, " + i + ")", x.read(1, i), i);
         }
-        refused("7: again", x, x.deliver(0, 1), 3);
-        refused("7: to its writer", x, x.deliver(0, 0), 3);
+        Due.refused("7: again", x, x.deliver(0, 1), 3);
+        Due.refused("7: to its writer", x, x.deliver(0, 0), 3);
         for (int wrong : new int[] {3, -1, LOW, HIGH}) {
-            refused("7: letter " + wrong, x, x.deliver(wrong, 1), 1);
-            refused("7: member " + wrong, x, x.deliver(0, wrong), 1);
+            Due.refused("7: letter " + wrong, x, x.deliver(wrong, 1), 1);
+            Due.refused("7: member " + wrong, x, x.deliver(0, wrong), 1);
         }
-        ReadingCircles y = withMembers(3, 3);
+        ReadingCircles y = Start.of(3, 3);
         y.write(0, 0, 0);
-        refused("7: outside the circle", y, y.deliver(0, 2), 3);
+        Due.refused("7: outside the circle", y, y.deliver(0, 2), 3);
     }
 
     private static void deliverBehindTheFirstMember() {
-        ReadingCircles x = withMembers(3, 7);
+        ReadingCircles x = Start.of(3, 7);
         x.write(0, 0, 0);
         x.deliver(0, 1);
         x.write(1, 0, 0);
@@ -219,7 +198,7 @@ public final class PromiseTests {
     }
 
     private static void deliverLowestFirst() {
-        ReadingCircles x = withMembers(4, 15);
+        ReadingCircles x = Start.of(4, 15);
         x.write(3, 0, 0);
         x.deliver(0, 0);
         x.deliver(0, 1);
@@ -232,7 +211,7 @@ public final class PromiseTests {
     }
 
     private static void deliverWithinSharedCircles() {
-        ReadingCircles x = withMembers(3, 3, 6, 7);
+        ReadingCircles x = Start.of(3, 3, 6, 7);
         x.write(0, 0, 0);
         x.deliver(0, 1);
         x.write(1, 1, 0);
@@ -247,7 +226,7 @@ public final class PromiseTests {
     }
 
     private static void sealedInOneOrder() {
-        ReadingCircles x = withMembers(4, 15);
+        ReadingCircles x = Start.of(4, 15);
         x.seal(1, 0, -1);
         x.seal(2, 0, -1);
         Due.is("7: the eldest gives the Sealed one, then its Order", x.deliver(1, 0), 2);
@@ -265,24 +244,24 @@ public final class PromiseTests {
         Due.is("7: the Orders come to the writer of the second", x.deliver(2, 1), 1);
         Due.is("7: who waits for the first number", x.deliver(3, 1), 1);
         Due.is("7: till it comes", x.deliver(1, 1), 2);
-        ReadingCircles y = withMembers(3, 7);
+        ReadingCircles y = Start.of(3, 7);
         y.seal(0, 0, -1);
         Due.is("7: the eldest's own needs no Order", y.deliver(0, 2), 1);
     }
 
     private static void deliverAll() {
-        ReadingCircles x = withMembers(3, 7);
+        ReadingCircles x = Start.of(3, 7);
         x.write(0, 0, 0);
         x.write(1, 0, 0);
         x.seal(2, 0, -1);
-        done("8: upward", x, x.deliverAll(0, 0), 8);
+        Due.done("8: upward", x, x.deliverAll(0, 0), 8);
         Due.is("8: upward: read(2, 0)", x.read(2, 0), 0);
         Due.is("8: upward: read(2, 1)", x.read(2, 1), 1);
-        done("8: nothing more", x, x.deliverAll(0, 1), 0);
-        ReadingCircles y = withMembers(3, 7);
+        Due.done("8: nothing more", x, x.deliverAll(0, 1), 0);
+        ReadingCircles y = Start.of(3, 7);
         y.write(1, 0, 0);
         y.seal(2, 0, -1);
-        done("8: downward", y, y.deliverAll(0, 1), 6);
+        Due.done("8: downward", y, y.deliverAll(0, 1), 6);
         int[][] orders = {{1, 2, 0}, {0, 2, 1}, {2, 1, 0}};
         for (int m = 0; m < 3; m++) {
             for (int i = 0; i < 3; i++) {
@@ -290,26 +269,26 @@ public final class PromiseTests {
             }
         }
         for (int wrong : new int[] {2, -1, LOW, HIGH}) {
-            refused("8: circle " + wrong, x, x.deliverAll(wrong, 0), 1);
-            refused("8: way " + wrong, x, x.deliverAll(0, wrong), 1);
+            Due.refused("8: circle " + wrong, x, x.deliverAll(wrong, 0), 1);
+            Due.refused("8: way " + wrong, x, x.deliverAll(0, wrong), 1);
         }
     }
 
     private static void deliverAllOfOneCircle() {
-        ReadingCircles x = withMembers(3, 7, 3, 3);
+        ReadingCircles x = Start.of(3, 7, 3, 3);
         x.write(0, 1, 0);
         x.write(1, 0, 0);
-        done("8: of this circle alone", x, x.deliverAll(0, 0), 2);
+        Due.done("8: of this circle alone", x, x.deliverAll(0, 0), 2);
         Due.is("8: the other's stays on the line", x.state(1, 0), 1);
         x.seal(1, 1, -1);
         x.write(1, 0, 0);
-        done("8: the Sealed one of another circle holds nothing back", x, x.deliverAll(0, 1), 2);
-        done("8: circle 1 with the Order that comes", x, x.deliverAll(1, 0), 3);
-        done("8: a circle without letters", x, x.deliverAll(2, 1), 0);
+        Due.done("8: the Sealed one of another circle holds nothing back", x, x.deliverAll(0, 1), 2);
+        Due.done("8: circle 1 with the Order that comes", x, x.deliverAll(1, 0), 3);
+        Due.done("8: a circle without letters", x, x.deliverAll(2, 1), 0);
     }
 
     private static void count() {
-        ReadingCircles x = withMembers(3, 7, 3);
+        ReadingCircles x = Start.of(3, 7, 3);
         x.seal(0, 0, -1);
         x.act(0, 2, 1);
         Due.is("9: count(0)", x.count(0), 3);
@@ -322,7 +301,7 @@ public final class PromiseTests {
     }
 
     private static void told() {
-        ReadingCircles x = withMembers(4, 3, 14, 6);
+        ReadingCircles x = Start.of(4, 3, 14, 6);
         x.write(0, 0, 0);
         x.deliver(0, 1);
         x.write(1, 1, 5);
@@ -341,7 +320,7 @@ public final class PromiseTests {
     }
 
     private static void saved() {
-        ReadingCircles x = withMembers(3, 7);
+        ReadingCircles x = Start.of(3, 7);
         x.write(0, 0, 0);
         Due.is("10: without an earlier one none is saved", x.told(0, 7), 0);
         x.circle(3);
@@ -361,7 +340,7 @@ public final class PromiseTests {
     }
 
     private static void circleTold() {
-        ReadingCircles x = withMembers(4, 12, 6);
+        ReadingCircles x = Start.of(4, 12, 6);
         Due.is("11: bits", x.circleTold(0, 0), 12);
         Due.is("11: eldest", x.circleTold(0, 1), 2);
         Due.is("11: eldest", x.circleTold(1, 1), 1);
@@ -384,7 +363,7 @@ public final class PromiseTests {
     }
 
     private static void state() {
-        ReadingCircles x = withMembers(4, 7);
+        ReadingCircles x = Start.of(4, 7);
         x.write(0, 0, 0);
         x.write(0, 0, 0);
         x.deliver(1, 1);
@@ -400,7 +379,7 @@ public final class PromiseTests {
     }
 
     private static void given() {
-        ReadingCircles x = withMembers(4, 7, 3);
+        ReadingCircles x = Start.of(4, 7, 3);
         x.write(0, 0, 0);
         x.seal(0, 1, -1);
         x.deliver(0, 1);
@@ -419,7 +398,7 @@ public final class PromiseTests {
     }
 
     private static void read() {
-        ReadingCircles x = withMembers(2, 3);
+        ReadingCircles x = Start.of(2, 3);
         x.write(0, 0, 0);
         x.write(1, 0, 0);
         x.deliver(1, 0);
@@ -441,7 +420,7 @@ public final class PromiseTests {
     }
 
     private static void why() {
-        ReadingCircles x = withMembers(4, 15, 7);
+        ReadingCircles x = Start.of(4, 15, 7);
         x.write(2, 1, 0);
         x.write(2, 1, 0);
         x.deliver(0, 0);
@@ -473,7 +452,7 @@ public final class PromiseTests {
     }
 
     private static void whyOfSealed() {
-        ReadingCircles x = withMembers(4, 15);
+        ReadingCircles x = Start.of(4, 15);
         x.seal(1, 0, -1);
         Due.is("15: Sealed, no Order: circle", x.why(1, 0, 0), -2);
         Due.is("15: Sealed, no Order: member", x.why(1, 0, 1), -2);
@@ -488,7 +467,7 @@ public final class PromiseTests {
         Due.is("15: a lower number lacks: circle", x.why(3, 1, 0), -2);
         Due.is("15: a lower number lacks", x.why(3, 1, 2), 1);
         Due.is("15: till it comes", x.deliver(0, 3), 2);
-        ReadingCircles y = withMembers(3, 7);
+        ReadingCircles y = Start.of(3, 7);
         y.seal(1, 0, -1);
         y.seal(2, 0, -1);
         y.deliver(0, 0);
@@ -500,7 +479,7 @@ public final class PromiseTests {
 
     /** An Order's clock is its Sealed one's, and its own writer's count there is not asked. */
     private static void whyOfOrder() {
-        ReadingCircles x = withMembers(4, 15);
+        ReadingCircles x = Start.of(4, 15);
         x.write(3, 0, 0);
         x.deliver(0, 1);
         x.seal(1, 0, -1);
@@ -519,7 +498,7 @@ public final class PromiseTests {
     }
 
     private static void late() {
-        ReadingCircles x = withMembers(3, 7, 3);
+        ReadingCircles x = Start.of(3, 7, 3);
         Due.is("16: none", x.late(1), 0);
         x.write(0, 0, 0);
         x.seal(0, 1, -1);
@@ -534,7 +513,7 @@ public final class PromiseTests {
     }
 
     private static void behind() {
-        ReadingCircles x = withMembers(4, 3, 6, 12);
+        ReadingCircles x = Start.of(4, 3, 6, 12);
         x.write(0, 0, 0);
         x.deliver(0, 1);
         x.write(1, 1, 0);
@@ -559,7 +538,7 @@ public final class PromiseTests {
     }
 
     private static void past() {
-        ReadingCircles x = withMembers(3, 3, 6);
+        ReadingCircles x = Start.of(3, 3, 6);
         x.write(0, 0, 0);
         x.write(0, 0, 0);
         x.deliver(0, 1);
@@ -573,7 +552,7 @@ public final class PromiseTests {
         for (int wrong : new int[] {-1, 4, LOW, HIGH}) {
             Due.is("18: past(" + wrong + ")", x.past(wrong), -1);
         }
-        ReadingCircles y = withMembers(2, 3);
+        ReadingCircles y = Start.of(2, 3);
         for (int i = 0; i < 100; i++) {
             y.seal(0, 0, -1);
         }
@@ -582,7 +561,7 @@ public final class PromiseTests {
     }
 
     private static void chain() {
-        ReadingCircles x = withMembers(3, 7);
+        ReadingCircles x = Start.of(3, 7);
         x.write(0, 0, 0);
         x.write(1, 0, 0);
         x.write(1, 0, 0);
@@ -602,19 +581,8 @@ public final class PromiseTests {
         }
     }
 
-    /** Letters 0 to 5 are of kinds 0 to 5; each clock has 3 counts, serials are 1 to 6. */
-    private static ReadingCircles withAllKinds() {
-        ReadingCircles x = withMembers(3, 7);
-        x.write(0, 0, 0);
-        x.reply(0, 0, 0);
-        x.seal(0, 0, 1);
-        x.write(0, 0, 4);
-        x.write(0, 0, 5);
-        return x;
-    }
-
     private static void act() {
-        ReadingCircles x = withAllKinds();
+        ReadingCircles x = Start.withAllKinds();
         int[][] want = {
             {11, 33, 44, 38},
             {24, 33, 57, 52 ^ 5},
@@ -626,16 +594,16 @@ public final class PromiseTests {
         for (int letter = 0; letter < 6; letter++) {
             Due.is("20: kind", x.told(letter, 0), letter);
             for (int act = 0; act < 4; act++) {
-                done("20: act(" + letter + ", " + act + ", 10)", x, x.act(letter, act, 10), want[letter][act]);
+                Due.done("20: act(" + letter + ", " + act + ", 10)", x, x.act(letter, act, 10), want[letter][act]);
             }
         }
         for (int wrong : new int[] {-1, 6, LOW, HIGH}) {
-            refused("20: letter " + wrong, x, x.act(wrong, 0, 0), 1);
-            refused("20: act " + wrong, x, x.act(0, wrong, 0), 1);
+            Due.refused("20: letter " + wrong, x, x.act(wrong, 0, 0), 1);
+            Due.refused("20: act " + wrong, x, x.act(0, wrong, 0), 1);
         }
-        refused("20: act 4", x, x.act(0, 4, 0), 1);
+        Due.refused("20: act 4", x, x.act(0, 4, 0), 1);
         Due.is("20: a refused act leaves the trace", x.count(3), 14);
-        ReadingCircles y = withMembers(2, 3);
+        ReadingCircles y = Start.of(2, 3);
         y.seal(1, 0, -1);
         Due.is("20: Sealed without a number: bear", y.act(0, 1, 10), 33 + 2 + 1);
         Due.is("20: Sealed without a number: give", y.act(0, 2, 10), 21 + 36 - 7);
@@ -644,14 +612,14 @@ public final class PromiseTests {
     }
 
     private static void actWraps() {
-        ReadingCircles x = withAllKinds();
-        done("20: age wraps", x, x.act(0, 0, HIGH), LOW);
-        done("20: bear wraps", x, x.act(0, 1, HIGH), HIGH * 3 + 3);
-        done("20: View's age wraps", x, x.act(4, 0, LOW), LOW - 1 + 5 - 1);
+        ReadingCircles x = Start.withAllKinds();
+        Due.done("20: age wraps", x, x.act(0, 0, HIGH), LOW);
+        Due.done("20: bear wraps", x, x.act(0, 1, HIGH), HIGH * 3 + 3);
+        Due.done("20: View's age wraps", x, x.act(4, 0, LOW), LOW - 1 + 5 - 1);
     }
 
     private static void trace() {
-        ReadingCircles x = withAllKinds();
+        ReadingCircles x = Start.withAllKinds();
         int[][] waits = {
             {13, 12, 10, 11},
             {21, 13, 12, 20, 10, 11},
@@ -674,25 +642,25 @@ public final class PromiseTests {
     }
 
     private static void bare() {
-        ReadingCircles x = withMembers(2, 3);
+        ReadingCircles x = Start.of(2, 3);
         x.write(0, 0, 0);
         x.write(0, 0, 0);
-        done("22: into a slot", x, x.bare(1, 0, 0), 1);
-        done("22: the last slot", x, x.bare(1, 39, 0), 1);
-        refused("22: a clock is there", x, x.bare(1, 0, 1), 3);
+        Due.done("22: into a slot", x, x.bare(1, 0, 0), 1);
+        Due.done("22: the last slot", x, x.bare(1, 39, 0), 1);
+        Due.refused("22: a clock is there", x, x.bare(1, 0, 1), 3);
         x.deliver(1, 1);
         Due.is("22: the letter took the next slot", x.slot(1, 1), 2);
-        refused("22: a letter is there", x, x.bare(1, 1, 0), 3);
+        Due.refused("22: a letter is there", x, x.bare(1, 1, 0), 3);
         for (int wrong : new int[] {-1, 40, LOW, HIGH}) {
-            refused("22: member " + wrong, x, x.bare(wrong, 0, 0), 1);
-            refused("22: slot " + wrong, x, x.bare(0, wrong, 0), 1);
-            refused("22: letter " + wrong, x, x.bare(0, 0, wrong), 1);
+            Due.refused("22: member " + wrong, x, x.bare(wrong, 0, 0), 1);
+            Due.refused("22: slot " + wrong, x, x.bare(0, wrong, 0), 1);
+            Due.refused("22: letter " + wrong, x, x.bare(0, 0, wrong), 1);
         }
-        refused("22: no such before not so", x, x.bare(1, 0, 2), 1);
+        Due.refused("22: no such before not so", x, x.bare(1, 0, 2), 1);
     }
 
     private static void slot() {
-        ReadingCircles x = withMembers(3, 7);
+        ReadingCircles x = Start.of(3, 7);
         x.write(0, 0, 0);
         x.write(0, 0, 4);
         x.write(0, 0, 5);
@@ -720,7 +688,7 @@ public final class PromiseTests {
     }
 
     private static void slotsFull() {
-        ReadingCircles x = withMembers(3, 7);
+        ReadingCircles x = Start.of(3, 7);
         for (int i = 0; i < 42; i++) {
             x.write(0, 0, i == 41 ? 5 : 0);
         }
@@ -737,7 +705,7 @@ public final class PromiseTests {
     }
 
     private static void forgeSerial() {
-        ReadingCircles x = withMembers(2, 3);
+        ReadingCircles x = Start.of(2, 3);
         x.write(0, 0, 0);
         x.write(0, 0, 0);
         x.reply(0, 0, 0);
@@ -760,125 +728,116 @@ public final class PromiseTests {
             for (int n = -100; n <= 100; n++) {
                 String call = "24: forge(1, " + kind + ", 0, " + n + ")";
                 if (under[kind][Math.floorMod(n, 6)]) {
-                    done(call, x, x.forge(1, kind, 0, n), kind + 2);
+                    Due.done(call, x, x.forge(1, kind, 0, n), kind + 2);
                 } else {
-                    refused(call, x, x.forge(1, kind, 0, n), 11);
+                    Due.refused(call, x, x.forge(1, kind, 0, n), 11);
                 }
             }
             if (kind == 1 || kind == 2) {
-                done("24: stored", x, x.forge(1, kind, 5, 0), 1);
+                Due.done("24: stored", x, x.forge(1, kind, 5, 0), 1);
             } else {
-                refused("24: stored", x, x.forge(1, kind, 5, 0), 14);
+                Due.refused("24: stored", x, x.forge(1, kind, 5, 0), 14);
             }
         }
-        refused("24: nothing", x, x.forge(1, 9, 0, 0), 10);
+        Due.refused("24: nothing", x, x.forge(1, 9, 0, 0), 10);
         x.bare(1, 9, 0);
-        refused("24: a bare clock", x, x.forge(1, 9, 0, 0), 11);
-        refused("24: a bare clock stored", x, x.forge(1, 9, 5, 0), 11);
-        done("24: nothing stored", x, x.forge(1, 10, 5, 0), 0);
+        Due.refused("24: a bare clock", x, x.forge(1, 9, 0, 0), 11);
+        Due.refused("24: a bare clock stored", x, x.forge(1, 9, 5, 0), 11);
+        Due.done("24: nothing stored", x, x.forge(1, 10, 5, 0), 0);
     }
 
-    /** A letter of member 3 whose clock has rows 1 (counts 2, 1 of members 2, 3) and 2. */
-    private static ReadingCircles withClock() {
-        ReadingCircles x = withMembers(5, 3, 14, 24);
-        x.write(2, 1, 0);
-        x.write(2, 1, 0);
-        x.write(3, 1, 0);
-        x.deliver(0, 3);
-        x.deliver(1, 3);
-        x.write(4, 2, 0);
-        x.deliver(3, 3);
-        x.write(3, 2, 0);
-        x.bare(0, 5, 4);
+    /** Slot 0 of member 1 has a letter besides. */
+    private static ReadingCircles withClockAndLetter() {
+        ReadingCircles x = Start.withBareClock();
         x.write(3, 1, 0);
         x.deliver(5, 1);
         return x;
     }
 
     private static void forgeRows() {
-        ReadingCircles x = withClock();
+        ReadingCircles x = withClockAndLetter();
         int[] counts = {0, 0, 2, 1, 0, 0, 0, 0};
         for (int n = 0; n < 8; n++) {
-            done("24: count of member " + n, x, x.forge(0, 5, 1, n), counts[n]);
+            Due.done("24: count of member " + n, x, x.forge(0, 5, 1, n), counts[n]);
         }
-        done("24: sum of row 1", x, x.forge(0, 5, 2, 1), 3);
-        done("24: sum of row 2", x, x.forge(0, 5, 2, 2), 1);
+        Due.done("24: sum of row 1", x, x.forge(0, 5, 2, 1), 3);
+        Due.done("24: sum of row 2", x, x.forge(0, 5, 2, 2), 1);
         for (int n : new int[] {0, 3, 5}) {
-            refused("24: row " + n, x, x.forge(0, 5, 2, n), 10);
+            Due.refused("24: row " + n, x, x.forge(0, 5, 2, n), 10);
         }
         for (int n : new int[] {-1, 8, 100, -100}) {
-            refused("24: count of member " + n, x, x.forge(0, 5, 1, n), 12);
-            refused("24: row " + n, x, x.forge(0, 5, 2, n), 12);
-            refused("24: nothing, count of " + n, x, x.forge(0, 6, 1, n), 10);
-            refused("24: nothing, row " + n, x, x.forge(0, 6, 2, n), 10);
-            refused("24: a letter, count of " + n, x, x.forge(1, 0, 1, n), 11);
-            refused("24: a letter, row " + n, x, x.forge(1, 0, 2, n), 11);
+            Due.refused("24: count of member " + n, x, x.forge(0, 5, 1, n), 12);
+            Due.refused("24: row " + n, x, x.forge(0, 5, 2, n), 12);
+            Due.refused("24: nothing, count of " + n, x, x.forge(0, 6, 1, n), 10);
+            Due.refused("24: nothing, row " + n, x, x.forge(0, 6, 2, n), 10);
+            Due.refused("24: a letter, count of " + n, x, x.forge(1, 0, 1, n), 11);
+            Due.refused("24: a letter, row " + n, x, x.forge(1, 0, 2, n), 11);
         }
-        refused("24: row 6", x, x.forge(0, 5, 2, 6), 12);
-        ReadingCircles y = withMembers(2, 3);
+        Due.refused("24: row 6", x, x.forge(0, 5, 2, 6), 12);
+        ReadingCircles y = Start.of(2, 3);
         y.write(0, 0, 0);
         y.write(0, 0, 0);
         y.bare(1, 0, 1);
-        done("24: the first row and cell", y, y.forge(1, 0, 1, 0), 1);
-        done("24: the sum has the first cell", y, y.forge(1, 0, 2, 0), 1);
-        refused("24: a letter", x, x.forge(1, 0, 1, 0), 11);
-        refused("24: nothing", x, x.forge(0, 6, 2, 0), 10);
+        Due.done("24: the first row and cell", y, y.forge(1, 0, 1, 0), 1);
+        Due.done("24: the sum has the first cell", y, y.forge(1, 0, 2, 0), 1);
+        Due.refused("24: a letter", x, x.forge(1, 0, 1, 0), 11);
+        Due.refused("24: nothing", x, x.forge(0, 6, 2, 0), 10);
     }
 
     private static void forgeCopy() {
-        ReadingCircles x = withClock();
+        ReadingCircles x = withClockAndLetter();
         int[] sums = {0, 2, 3, 3, 3};
         for (int n = 0; n < sums.length; n++) {
-            done("24: copy of " + n, x, x.forge(0, 5, 4, n), sums[n]);
+            Due.done("24: copy of " + n, x, x.forge(0, 5, 4, n), sums[n]);
         }
         for (int n : new int[] {-1, 5, 6, 7, 100, -100}) {
-            refused("24: copy of " + n, x, x.forge(0, 5, 4, n), 12);
-            refused("24: nothing, copy of " + n, x, x.forge(0, 6, 4, n), 10);
-            refused("24: a letter, copy of " + n, x, x.forge(1, 0, 4, n), 11);
+            Due.refused("24: copy of " + n, x, x.forge(0, 5, 4, n), 12);
+            Due.refused("24: nothing, copy of " + n, x, x.forge(0, 6, 4, n), 10);
+            Due.refused("24: a letter, copy of " + n, x, x.forge(1, 0, 4, n), 11);
         }
     }
 
     private static void forgeRest() {
-        ReadingCircles x = withMembers(1);
+        ReadingCircles x = Start.of(1);
         for (int n = -100; n <= 100; n++) {
             if (n < 0) {
-                refused("24: row of " + n, x, x.forge(0, 0, 3, n), 13);
+                Due.refused("24: row of " + n, x, x.forge(0, 0, 3, n), 13);
             } else {
-                done("24: row of " + n, x, x.forge(0, 0, 3, n), n);
+                Due.done("24: row of " + n, x, x.forge(0, 0, 3, n), n);
             }
             if (n == 0) {
-                refused("24: 100 by 0", x, x.forge(0, 0, 6, 0), 15);
+                Due.refused("24: 100 by 0", x, x.forge(0, 0, 6, 0), 15);
             } else {
-                done("24: 100 by " + n, x, x.forge(0, 0, 6, n), 100 / n);
+                Due.done("24: 100 by " + n, x, x.forge(0, 0, 6, n), 100 / n);
             }
             if (n % 2 == 0) {
-                refused("24: failure " + n, x, x.forge(0, 0, 7, n), 10);
+                Due.refused("24: failure " + n, x, x.forge(0, 0, 7, n), 10);
             } else {
-                done("24: failure " + n, x, x.forge(0, 0, 7, n), 1);
+                Due.done("24: failure " + n, x, x.forge(0, 0, 7, n), 1);
             }
         }
     }
 
     private static void forgeWrong() {
-        ReadingCircles x = withMembers(1);
+        ReadingCircles x = Start.of(1);
         for (int what = 0; what < 8; what++) {
             for (int wrong : new int[] {101, -101, LOW, HIGH}) {
-                refused("24: n " + wrong, x, x.forge(0, 0, what, wrong), 1);
+                Due.refused("24: n " + wrong, x, x.forge(0, 0, what, wrong), 1);
             }
             for (int wrong : new int[] {-1, 40, LOW, HIGH}) {
-                refused("24: member " + wrong, x, x.forge(wrong, 0, what, 1), 1);
-                refused("24: slot " + wrong, x, x.forge(0, wrong, what, 1), 1);
+                Due.refused("24: member " + wrong, x, x.forge(wrong, 0, what, 1), 1);
+                Due.refused("24: slot " + wrong, x, x.forge(0, wrong, what, 1), 1);
             }
         }
         for (int wrong : new int[] {-1, 8, LOW, HIGH}) {
-            refused("24: what " + wrong, x, x.forge(0, 0, wrong, 0), 1);
+            Due.refused("24: what " + wrong, x, x.forge(0, 0, wrong, 0), 1);
         }
-        refused("24: member 1", x, x.forge(1, 0, 3, 1), 1);
-        done("24: the last slot", x, x.forge(0, 39, 3, 1), 1);
+        Due.refused("24: member 1", x, x.forge(1, 0, 3, 1), 1);
+        Due.done("24: the last slot", x, x.forge(0, 39, 3, 1), 1);
     }
 
     private static void status() {
-        ReadingCircles x = withMembers(2, 3);
+        ReadingCircles x = Start.of(2, 3);
         x.write(0, 0, 0);
         x.deliver(0, 0);
         x.count(9);
