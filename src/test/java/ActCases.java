@@ -222,16 +222,54 @@ final class ActCases {
         Due.row("trace(i)", x::trace, 20, 10, -1, -1, -1, -1, -1, -1, -1, -1, -1, -1, -1, -1);
     }
 
+    @Case("Promise 21, THE TRACE is of the latest act: all other calls leave it")
+    static void traceLeftByOthers() {
+        ReadingCircles x = Start.withAllKinds();
+        x.act(1, AGE, 0);
+        x.member();
+        x.circle(3);
+        x.write(0, 0, 5);
+        x.reply(0, 0, 0);
+        x.seal(0, 0, -1);
+        x.deliver(0, 1);
+        x.deliverAll(0, 0);
+        x.bare(0, 0, 0);
+        x.forge(0, 0, 1, 0);
+        Due.is("count(3)", x.count(3), 2);
+        Due.row("trace(i)", x::trace, 20, 10, -1);
+    }
+
     /** No letter's act has more than 14 bodies, so that only the trace itself can be filled. */
-    @Case("Terms, THE TRACE: the first 60 are kept, those past 60 are counted alone")
-    static void traceOfSixty() {
+    private static ReadingCircles.Trace traceOfHundred() {
         ReadingCircles.Trace trace = new ReadingCircles.Trace();
-        for (int i = 0; i < 61; i++) {
+        for (int i = 0; i < 100; i++) {
             trace.begin(1000 + i);
         }
-        Due.is("the first", trace.bodyAt(0), 1000);
-        Due.is("the 60th", trace.bodyAt(59), 1059);
-        Due.is("the 61st", trace.bodyAt(60), -1);
-        Due.is("how many", trace.begunCount(), 61);
+        return trace;
+    }
+
+    @Case("Terms, THE TRACE: the first 60 are kept")
+    static void traceKeepsSixty() {
+        ReadingCircles.Trace trace = traceOfHundred();
+        for (int i = 0; i < 60; i++) {
+            Due.is("bodyAt(" + i + ")", trace.bodyAt(i), 1000 + i);
+        }
+    }
+
+    @Case("Promise 21, -1: none such, those past the first 60")
+    static void traceKeepsNoMore() {
+        ReadingCircles.Trace trace = traceOfHundred();
+        for (int i = 60; i < 101; i++) {
+            Due.is("bodyAt(" + i + ")", trace.bodyAt(i), -1);
+        }
+    }
+
+    @Case("Promise 9, THE TRACE's bodies, also those past 60")
+    static void traceCountsAll() {
+        ReadingCircles.Trace trace = new ReadingCircles.Trace();
+        for (int i = 0; i < 100; i++) {
+            trace.begin(10);
+            Due.is("begunCount()", trace.begunCount(), i + 1);
+        }
     }
 }

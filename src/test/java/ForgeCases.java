@@ -7,11 +7,15 @@ final class ForgeCases {
     private ForgeCases() {
     }
 
+    /** A call that is refused stands before it, so that its own status is seen. */
     private static void done(ReadingCircles x, int member, int slot, int what, int n, int want) {
+        x.circle(0);
         Due.done(named(member, slot, what, n), x, x.forge(member, slot, what, n), want);
     }
 
+    /** A call that is done stands before it, so that its own status is seen. */
     private static void refused(ReadingCircles x, int member, int slot, int what, int n, int status) {
+        x.forge(0, 0, 3, 0);
         Due.refused(named(member, slot, what, n), x, x.forge(member, slot, what, n), status);
     }
 

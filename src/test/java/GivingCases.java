@@ -1,3 +1,5 @@
+import java.util.Random;
+
 /** Boundary cases of 'Terms': the line, what a member holds and can give, and the Order. */
 final class GivingCases {
     private GivingCases() {
@@ -55,6 +57,23 @@ final class GivingCases {
         x.deliver(1, 2);
         Due.is("deliver(0, 2)", x.deliver(0, 2), 3);
         Due.row("read(2, i)", i -> x.read(2, i), 0, 1, 2, -1);
+    }
+
+    @Case("Terms, a MEMBER GIVES of those that it HOLDS the one with the lowest number, not the last that came")
+    static void lowestFirstOfMany() {
+        ReadingCircles x = Start.of(8, 255);
+        x.write(7, 0, 0);
+        for (int writer = 0; writer < 6; writer++) {
+            x.deliver(0, writer);
+        }
+        for (int writer = 0; writer < 6; writer++) {
+            x.write(writer, 0, 5);
+        }
+        for (int letter : new int[] {3, 4, 1, 6, 5, 2}) {
+            Due.is("deliver(" + letter + ", 6)", x.deliver(letter, 6), 0);
+        }
+        Due.is("deliver(0, 6)", x.deliver(0, 6), 7);
+        Due.row("read(6, i)", i -> x.read(6, i), 0, 1, 2, 3, 4, 5, 6, -1);
     }
 
     @Case("Terms, a MEMBER GIVES the lowest again: one that it could not GIVE before comes first")
@@ -308,6 +327,51 @@ final class GivingCases {
         x.deliver(2, 3);
         Due.is("the Order of number 0", x.deliver(4, 3), 2);
         Due.is("the Order of number 1", x.deliver(5, 3), 2);
+    }
+
+    @Case("Terms, CAN GIVE: SEALED LETTERS to other CIRCLES do not stand for those to c with lower NUMBERS")
+    static void lowerNumbersOfThisCircle() {
+        ReadingCircles x = Start.of(4, 15, 15);
+        x.seal(0, 1, -1);
+        x.deliver(0, 3);
+        x.deliver(1, 3);
+        x.seal(1, 0, -1);
+        x.seal(2, 0, -1);
+        x.deliver(2, 0);
+        x.deliver(3, 0);
+        x.deliver(4, 3);
+        x.deliver(5, 3);
+        Due.is("number 1 of circle 0", x.told(3, 5), 1);
+        Due.is("given in circle 1", x.state(3, 0), 3);
+        Due.is("deliver(3, 3)", x.deliver(3, 3), 0);
+        Due.is("why(3, 3, 2)", x.why(3, 3, 2), 1);
+        Due.is("number 0 of circle 0", x.deliver(2, 3), 2);
+    }
+
+    @Case("Terms, SEALED ones in one order by all, whatever the lines do")
+    static void oneOrderByAll() {
+        for (int seed = 0; seed < 40; seed++) {
+            ReadingCircles x = Start.of(4, 15);
+            for (int i = 0; i < 6; i++) {
+                x.seal(i % 4, 0, -1);
+            }
+            Random random = new Random(seed);
+            for (int i = 0; i < 60; i++) {
+                x.deliver(random.nextInt(x.count(2)), random.nextInt(4));
+            }
+            x.deliverAll(0, seed % 2);
+            for (int member = 0; member < 4; member++) {
+                int next = 0;
+                for (int i = 0; i < 12; i++) {
+                    int letter = x.read(member, i);
+                    if (x.told(letter, 0) == 2) {
+                        Due.is("seed " + seed + ", member " + member, x.told(letter, 5), next);
+                        next++;
+                    }
+                }
+                Due.is("seed " + seed + ", member " + member + ": how many", next, 6);
+            }
+        }
     }
 
     @Case("Terms, THE ORDER: when the ELDEST GIVES, not when others do")

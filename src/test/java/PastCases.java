@@ -214,6 +214,21 @@ final class PastCases {
         Due.is("chain(0, 2)", x.chain(0, 2), 3);
     }
 
+    @Case("Promise 19, the row begins with a: a longer row to b that does not is not taken")
+    static void chainNotFromElsewhere() {
+        ReadingCircles x = Start.of(3, 7);
+        x.write(0, 0, 0);
+        for (int i = 0; i < 3; i++) {
+            x.write(1, 0, 0);
+        }
+        for (int letter = 0; letter < 4; letter++) {
+            x.deliver(letter, 2);
+        }
+        x.write(2, 0, 0);
+        Due.is("chain(0, 4)", x.chain(0, 4), 2);
+        Due.is("chain(1, 4)", x.chain(1, 4), 4);
+    }
+
     @Case("Promise 19, 0: b is not BEHIND a, not itself, not the other way, though numbers between are")
     static void chainOfNone() {
         ReadingCircles x = diamond();

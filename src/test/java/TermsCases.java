@@ -337,11 +337,16 @@ final class TermsCases {
     @Case("Terms, an object is used for 512 calls: the 512th is answered as all are")
     static void lastCall() {
         ReadingCircles x = Start.of(2, 3);
-        for (int i = 3; i < 509; i++) {
-            x.act(0, 0, 0);
+        x.write(0, 0, 0);
+        for (int call = 5; call < 512; call++) {
+            x.act(0, 0, call);
         }
-        x.write(0, 0, 0);
-        x.write(0, 0, 0);
         Due.is("call 512", x.deliver(0, 1), 1);
+        ReadingCircles y = Start.of(2, 3);
+        y.write(0, 0, 0);
+        for (int call = 5; call < 512; call++) {
+            y.told(0, 0);
+        }
+        Due.is("call 512", y.write(1, 0, 0), 1);
     }
 }
