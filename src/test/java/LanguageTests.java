@@ -1,10 +1,16 @@
 import java.io.IOException;
 import java.lang.reflect.Constructor;
+import java.lang.reflect.Executable;
 import java.lang.reflect.Field;
+import java.lang.reflect.InvocationTargetException;
 import java.lang.reflect.Method;
 import java.lang.reflect.Modifier;
 import java.nio.file.Files;
 import java.nio.file.Path;
+import java.util.ArrayList;
+import java.util.Arrays;
+import java.util.List;
+import java.util.Random;
 import java.util.Set;
 import java.util.TreeSet;
 import java.util.regex.Matcher;
@@ -25,13 +31,23 @@ public final class LanguageTests {
         "\\bhashCode\\b", "\\btoString\\b", "\\bThread\\b", "\\bRandom\\b",
     };
 
+    private static final int MOST_CLASSES = 12;
+    private static final int MOST_FIELDS = 20;
+    private static final int MOST_PARAMETERS = 7;
+    private static final int MOST_LINES = 60;
+    private static final int[] NUMBERS = {-101, -2, -1, 0, 0, 0, 1, 1, 2, 3, 4, 5, 6, 7, 8, 39, 40, 99, 100, 199, 200, Start.LOW, Start.HIGH};
+
     private LanguageTests() {
     }
 
-    public static void main(String[] args) throws IOException {
+    public static void main(String[] args) throws IOException, IllegalAccessException {
+        String source = Files.readString(Path.of("src/main/java/ReadingCircles.java"));
         face();
         fields();
-        words(Files.readString(Path.of("src/main/java/ReadingCircles.java")));
+        sizes();
+        words(source);
+        methodLengths(source);
+        noCallThrows();
         Due.end("LanguageTests");
     }
 
@@ -76,6 +92,66 @@ public final class LanguageTests {
         for (Class<?> inside : ReadingCircles.class.getDeclaredClasses()) {
             Due.is(inside.getName() + " is static", Modifier.isStatic(inside.getModifiers()) ? 1 : 0, 1);
             Due.is(inside.getName() + " is public", Modifier.isPublic(inside.getModifiers()) ? 1 : 0, 0);
+        }
+    }
+
+    private static List<Class<?>> classes() {
+        List<Class<?>> all = new ArrayList<>(List.of(ReadingCircles.class));
+        all.addAll(Arrays.asList(ReadingCircles.class.getDeclaredClasses()));
+        return all;
+    }
+
+    private static void sizes() {
+        Due.isTrue("rule 11: few classes", classes().size() <= MOST_CLASSES);
+        for (Class<?> one : classes()) {
+            int fields = 0;
+            for (Field field : one.getDeclaredFields()) {
+                fields += Modifier.isStatic(field.getModifiers()) ? 0 : 1;
+            }
+            Due.isTrue("rule 11: few fields in " + one, fields <= MOST_FIELDS);
+            List<Executable> called = new ArrayList<>(Arrays.asList(one.getDeclaredMethods()));
+            called.addAll(Arrays.asList(one.getDeclaredConstructors()));
+            for (Executable method : called) {
+                Due.isTrue("rule 11: few parameters of " + method, method.getParameterCount() <= MOST_PARAMETERS);
+            }
+        }
+    }
+
+    /** A method's lines are those from its head to the first line that closes it at the same depth. */
+    private static void methodLengths(String source) {
+        Matcher method = Pattern.compile("(?ms)^( {4}| {8})\\w[^\n;={]*\\([^\n;]*\\{\n(.*?)^\\1\\}").matcher(source);
+        int found = 0;
+        while (method.find()) {
+            found++;
+            Due.isTrue("rule 11: short: " + method.group().lines().findFirst().orElse(""),
+                method.group().lines().count() <= MOST_LINES);
+        }
+        Due.isTrue("methods are found", found > FACE.length);
+    }
+
+    /** Rule 7, for any arguments in any state: so also far past the calls whose answers are promised. */
+    private static void noCallThrows() throws IllegalAccessException {
+        Method[] methods = Arrays.stream(ReadingCircles.class.getDeclaredMethods())
+            .filter(method -> Modifier.isPublic(method.getModifiers())).toArray(Method[]::new);
+        Arrays.sort(methods, (a, b) -> a.getName().compareTo(b.getName()));
+        for (int seed = 0; seed < 40; seed++) {
+            Random random = new Random(seed);
+            ReadingCircles x = seed % 2 == 0 ? new ReadingCircles() : Start.of(8, 255, 3, 254, 170, 85, 129);
+            for (int call = 0; call < 5000; call++) {
+                throwsNothing(x, methods[random.nextInt(methods.length)], random);
+            }
+        }
+    }
+
+    private static void throwsNothing(ReadingCircles x, Method method, Random random) throws IllegalAccessException {
+        Object[] numbers = new Object[method.getParameterCount()];
+        for (int i = 0; i < numbers.length; i++) {
+            numbers[i] = NUMBERS[random.nextInt(NUMBERS.length)];
+        }
+        try {
+            method.invoke(x, numbers);
+        } catch (InvocationTargetException thrown) {
+            Due.isTrue("rule 7: " + method.getName() + Arrays.toString(numbers) + " throws no " + thrown.getCause(), false);
         }
     }
 

@@ -42,6 +42,7 @@ public final class PromiseTests {
         slot();
         slotsFull();
         forgeSerial();
+        forgeStored();
         forgeRows();
         forgeCopy();
         forgeRest();
@@ -705,16 +706,6 @@ public final class PromiseTests {
     }
 
     private static void forgeSerial() {
-        ReadingCircles x = Start.of(2, 3);
-        x.write(0, 0, 0);
-        x.write(0, 0, 0);
-        x.reply(0, 0, 0);
-        x.seal(0, 0, -1);
-        x.write(0, 0, 4);
-        x.write(0, 0, 5);
-        for (int letter = 1; letter < 7; letter++) {
-            x.deliver(letter, 1);
-        }
         boolean[][] under = {
             {true, false, false, false, false, false},
             {true, true, false, false, false, false},
@@ -724,6 +715,7 @@ public final class PromiseTests {
             {true, false, false, true, true, true},
         };
         for (int kind = 0; kind < 6; kind++) {
+            ReadingCircles x = Start.withSlotsOfAllKinds();
             Due.is("24: slot(1, " + kind + ")", x.slot(1, kind), 2 + kind);
             for (int n = -100; n <= 100; n++) {
                 String call = "24: forge(1, " + kind + ", 0, " + n + ")";
@@ -733,6 +725,12 @@ public final class PromiseTests {
                     Due.refused(call, x, x.forge(1, kind, 0, n), 11);
                 }
             }
+        }
+    }
+
+    private static void forgeStored() {
+        ReadingCircles x = Start.withSlotsOfAllKinds();
+        for (int kind = 0; kind < 6; kind++) {
             if (kind == 1 || kind == 2) {
                 Due.done("24: stored", x, x.forge(1, kind, 5, 0), 1);
             } else {
@@ -798,8 +796,8 @@ public final class PromiseTests {
     }
 
     private static void forgeRest() {
-        ReadingCircles x = Start.of(1);
         for (int n = -100; n <= 100; n++) {
+            ReadingCircles x = Start.of(1);
             if (n < 0) {
                 Due.refused("24: row of " + n, x, x.forge(0, 0, 3, n), 13);
             } else {

@@ -44,10 +44,11 @@ public final class RoomTests {
         for (; calls < 126; calls++) {
             sink += x.deliverAll(calls % 6, calls % 2);
         }
-        for (; calls < CALLS; calls++) {
+        Due.is("letters", x.count(2), 200);
+        calls++;
+        for (; calls + 3 <= CALLS; calls += 3) {
             sink += x.forge(calls % 8, 0, 3, 100) + x.chain(0, 199) + x.act(calls % 100, 3, calls);
         }
-        Due.is("letters", x.count(2), 200);
         return THREADS.getCurrentThreadAllocatedBytes() - before;
     }
 
